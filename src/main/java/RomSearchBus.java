@@ -279,8 +279,10 @@ public final class RomSearchBus {
                 return state.restart();
             case 'n':
                 return state.searchPass();
-            default:
+            case 'k':
                 return state.leaveFamily();
+            default:
+                return OUT_OF_RANGE;
         }
     }
 
@@ -804,7 +806,7 @@ public final class RomSearchBus {
             return isWithin(command, 0, MAX_COMMANDS - 1) ? letters[command] : NO_COMMAND;
         }
 
-        /** Answers 0 for a number that the command does not take. */
+        /** What stands at a place that the command does not take is of no meaning. */
         int numberOf(int command, int place) {
             boolean stands = isWithin(command, 0, MAX_COMMANDS - 1)
                     && isWithin(place, 0, MAX_NUMBERS - 1);
@@ -836,9 +838,6 @@ public final class RomSearchBus {
             }
             cursor++;
             letters[commands] = (byte) letter;
-            for (int place = 0; place < MAX_NUMBERS; place++) {
-                numbers[commands * MAX_NUMBERS + place] = 0;
-            }
             for (int place = 0; place < needed; place++) {
                 skipSpaces();
                 if (!readNumber(place, mayBeNegative(letter, place))) {

@@ -8,6 +8,7 @@ public final class DeviceTest {
         addDevice();
         addDeviceChecksInOrder();
         removeDevice();
+        deviceAddedAnewIsInitial();
         removeDeviceKeepsTheSearch();
         setReading();
         setAlarm();
@@ -111,6 +112,21 @@ public final class DeviceTest {
         x.undo();
         DUE.is("romCode(0) is back", x.romCode(0), 41041);
         DUE.is("alarmedDevices() is back", x.alarmedDevices(), 6);
+    }
+
+    /** A place that a removed device had leaves nothing to the device that comes next. */
+    private static void deviceAddedAnewIsInitial() {
+        RomSearchBus x = Due.busOf(3, 7);
+        x.setReading(0, -5);
+        x.setAlarm(0, 2, 9);
+        x.removeDevice(0);
+        x.addDevice(3, 7);
+        RomSearchBus fresh = Due.busOf(3, 7);
+        for (int call = 0; call < 4; call++) {
+            fresh.resetSearch();
+        }
+        DUE.is("digest() of a device added anew", x.digest(), fresh.digest());
+        DUE.is("setReading(0, -1) of a device added anew", x.setReading(0, -1), 0);
     }
 
     private static void removeDeviceKeepsTheSearch() {
