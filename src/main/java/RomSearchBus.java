@@ -25,7 +25,7 @@ public final class RomSearchBus {
     private static final int MAX_AHEAD = 20;
 
     private static final int SERIAL_SHIFT = 4;
-    private static final int CRC_SHIFT = 12;
+    private static final int CONTENT_BITS = 12;
     private static final int FAMILY_MASK = 0xF;
     private static final int CONTENT_MASK = 0xFFF;
     private static final int CRC_FEEDBACK = 12;
@@ -304,7 +304,7 @@ public final class RomSearchBus {
 
     private static int crcOf(int content) {
         int sum = 0;
-        for (int position = 0; position < CRC_SHIFT; position++) {
+        for (int position = 0; position < CONTENT_BITS; position++) {
             int mix = bitAt(content, position) ^ (sum & 1);
             sum >>= 1;
             if (mix == 1) {
@@ -316,7 +316,7 @@ public final class RomSearchBus {
 
     private static int romOf(int family, int serial) {
         int content = family | (serial << SERIAL_SHIFT);
-        return content | (crcOf(content) << CRC_SHIFT);
+        return content | (crcOf(content) << CONTENT_BITS);
     }
 
     private static long mixed(long hash, int value) {
@@ -664,7 +664,7 @@ public final class RomSearchBus {
             }
             discrepancy = lastZero;
             lastDevice = lastZero == NO_DISCREPANCY;
-            if (crcOf(rom & CONTENT_MASK) != rom >> CRC_SHIFT) {
+            if (crcOf(rom & CONTENT_MASK) != rom >> CONTENT_BITS) {
                 return fail(CRC_ERROR);
             }
             history.remember(rom);
