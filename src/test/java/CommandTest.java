@@ -268,16 +268,15 @@ public final class CommandTest {
     }
 
     private static void longTexts() {
-        RomSearchBus x = new RomSearchBus();
-        DUE.is("60 commands", Due.run(x, "r;".repeat(60)), 60);
+        DUE.is("60 commands", Due.run(new RomSearchBus(), "r;".repeat(60)), 60);
         RomSearchBus found = Due.busOf(1, 5);
         DUE.is("60 commands, the last one finds", Due.run(found, "r;".repeat(59) + "n;"), 60);
         DUE.is("found(0)", found.found(0), 41041);
         DUE.is("currentRom()", found.currentRom(), 41041);
-        DUE.is("119 bytes, the last one short", Due.run(x, "r;".repeat(59) + "r"), -129);
-        DUE.is("120 bytes, the last one wrong", Due.run(x, "r;".repeat(59) + "rr"), -129);
-        DUE.is("120 bytes, a second semicolon", Due.run(x, "r;".repeat(59) + ";;"), -128);
-        DUE.is("the 59th stops", Due.run(x, "r;".repeat(58) + "x0;"), -1058);
+        DUE.is("119 bytes, the last one short", Due.run(new RomSearchBus(), "r;".repeat(59) + "r"), -129);
+        DUE.is("120 bytes, the last one wrong", Due.run(new RomSearchBus(), "r;".repeat(59) + "rr"), -129);
+        DUE.is("120 bytes, a second semicolon", Due.run(new RomSearchBus(), "r;".repeat(59) + ";;"), -128);
+        DUE.is("the 59th stops", Due.run(new RomSearchBus(), "r;".repeat(58) + "x0;"), -1058);
         DUE.is("15 commands of 8 bytes", Due.run(Due.busOf(1, 5), "l0 3-99;".repeat(15)), 15);
     }
 }

@@ -226,7 +226,7 @@ public final class DeviceTest {
     private static void crc() {
         RomSearchBus x = new RomSearchBus();
         for (int value = 0; value <= 4095; value++) {
-            DUE.is("crc(" + value + ")", x.crc(value), Model.checksum(value));
+            DUE.is("crc(" + value + ")", new RomSearchBus().crc(value), Model.checksum(value));
         }
         DUE.is("crc of example 1", x.crc(5 * 16 + 1), 41041 >> 12);
         DUE.is("crc of example 2", x.crc(7 * 16 + 3), 53363 >> 12);

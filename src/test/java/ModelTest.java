@@ -161,42 +161,8 @@ public final class ModelTest {
     private int call(String name, int a, int b, int c) {
         String told1 = name + "(" + a + ", " + b + ", " + c + ")";
         told.append(told1).append("; ");
-        DUE.is(told1, answer(name, a, b, c), model.call(name, a, b, c));
+        DUE.is(told1, Calls.answer(bus, name, a, b, c), model.call(name, a, b, c));
         DUE.is("digest() behind " + told1, bus.digest(), model.call("digest", 0, 0, 0));
         return 2;
-    }
-
-    private long answer(String name, int a, int b, int c) {
-        switch (name) {
-            case "addDevice": return bus.addDevice(a, b);
-            case "removeDevice": return bus.removeDevice(a);
-            case "setReading": return bus.setReading(a, b);
-            case "setAlarm": return bus.setAlarm(a, b, c);
-            case "romCode": return bus.romCode(a);
-            case "alarmedDevices": return bus.alarmedDevices();
-            case "crc": return bus.crc(a);
-            case "setMode": return bus.setMode(a);
-            case "resetSearch": return bus.resetSearch();
-            case "next": return bus.next();
-            case "skipFamily": return bus.skipFamily();
-            case "targetFamily": return bus.targetFamily(a);
-            case "setNoise": return bus.setNoise(a);
-            case "countAhead": return bus.countAhead();
-            case "currentRom": return bus.currentRom();
-            case "lastDiscrepancy": return bus.lastDiscrepancy();
-            case "lastFamilyDiscrepancy": return bus.lastFamilyDiscrepancy();
-            case "isLastDevice": return bus.isLastDevice();
-            case "slotsUsed": return bus.slotsUsed();
-            case "found": return bus.found(a);
-            case "familyShareBits": return bus.familyShareBits(a);
-            case "append": return bus.append(a);
-            case "clearText": return bus.clearText();
-            case "execute": return bus.execute();
-            case "stopCause": return bus.stopCause();
-            case "undo": return bus.undo();
-            case "errorCount": return bus.errorCount(a);
-            case "deviceCount": return bus.deviceCount();
-            default: throw new IllegalStateException(name);
-        }
     }
 }

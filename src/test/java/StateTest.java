@@ -20,7 +20,7 @@ public final class StateTest {
         return hashOf(0, 0, 0, 0, 0, 0, 0, 0, 0, 0, -1, -1, 0, 0, -1, 0, 0, 0, 0, 0);
     }
 
-    private static long hashOf(long... values) {
+    static long hashOf(long... values) {
         long h = 2633;
         for (long v : values) {
             h = 31 * h + v;
