@@ -505,9 +505,12 @@ public final class CommandBoundaryTest {
         }
     }
 
+    /** What a stop could spoil is set behind the stop that both twins have. */
     private static RomSearchBus stoppedBefore(Fixture fixture) {
         RomSearchBus bus = fixture.make();
         DUE.is("a stop with OUT_OF_RANGE", Due.run(bus, "m9;"), -1000);
+        bus.targetFamily(3);
+        bus.setNoise(31);
         return bus;
     }
 

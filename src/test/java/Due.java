@@ -1,8 +1,26 @@
 /** Compares answers with what is due, prints those that differ, and ends the test. */
 final class Due {
     private static final int SHOWN = 50;
+    private static final long LONGEST_MILLIS = 300_000;
     private int asked = 0;
     private int wrong = 0;
+
+    Due() {
+        Thread watch = new Thread(Due::endLate);
+        watch.setDaemon(true);
+        watch.start();
+    }
+
+    /** A call that never ends is a fault like any other: without this the test would hang and tell nothing. */
+    private static void endLate() {
+        try {
+            Thread.sleep(LONGEST_MILLIS);
+        } catch (InterruptedException interrupted) {
+            return;
+        }
+        System.out.println("the test has not ended after " + LONGEST_MILLIS + " ms");
+        Runtime.getRuntime().halt(1);
+    }
 
     void is(String call, long got, long want) {
         asked++;

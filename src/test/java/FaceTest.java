@@ -65,7 +65,8 @@ public final class FaceTest {
 
     private static void namesOfItsOwn(Class<?> inside) {
         for (Method method : inside.getDeclaredMethods()) {
-            DUE.holds(method + " has a name of its own", !isFaceName(method.getName()));
+            DUE.holds(method + " has a name of its own",
+                    !Modifier.isPrivate(method.getModifiers()) || !isFaceName(method.getName()));
         }
     }
 
@@ -97,8 +98,14 @@ public final class FaceTest {
         for (Field field : owner.getDeclaredFields()) {
             if (Modifier.isStatic(field.getModifiers())) {
                 DUE.holds(field + " is a final constant",
-                        Modifier.isFinal(field.getModifiers()) && STATIC_TYPES.contains(field.getType()));
+                        Modifier.isFinal(field.getModifiers()) && mayBeStatic(field.getType()));
             }
         }
+    }
+
+    /** An enum's constants and its values(), kept once, may stand in static fields, too. */
+    private static boolean mayBeStatic(Class<?> type) {
+        return STATIC_TYPES.contains(type) || type.isEnum()
+                || type.isArray() && type.getComponentType().isEnum();
     }
 }

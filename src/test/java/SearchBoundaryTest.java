@@ -23,6 +23,7 @@ public final class SearchBoundaryTest {
         threeSlotsAtEachPosition();
         noDeviceAtEachPosition();
         falseDiscrepancyAtEachPosition();
+        hiddenForkAtEachPosition();
         passWithAWrongCrc();
         directionBelowAtAndAboveTheLastDiscrepancy();
         staleLastFamilyDiscrepancy();
@@ -133,6 +134,11 @@ public final class SearchBoundaryTest {
         DUE.is("the flag is set", y.isLastDevice(), 1);
         y.resetSearch();
         isReset("reset of a set flag", y);
+        RomSearchBus z = Due.busOf(0, 0, 8, 0, 8, 1);
+        passes(z, 2);
+        state("before the reset", z, z.romCode(1), 4, 3, 0);
+        z.resetSearch();
+        isReset("reset of both discrepancies", z);
     }
 
     /** "The search is initially reset and the mode is 0". */
@@ -207,6 +213,7 @@ public final class SearchBoundaryTest {
         RomSearchBus x = Due.busOf(0, 0, 0, 1, 0, 2);
         x.setAlarm(1, 2, 1);
         DUE.is("countAhead() in mode 0", x.countAhead(), 3);
+        DUE.is("countAhead() in mode 0 with eight", ladder(8).countAhead(), 8);
     }
 
     /** "(3) .. and the alarmed devices in mode 1": each number of them from none to all. */
@@ -283,6 +290,22 @@ public final class SearchBoundaryTest {
                 DUE.is(told + ": slotsUsed()", x.slotsUsed(), position == 15 ? 48 : 3 * position + 5);
             }
             DUE.is(told + ": the noise is used up", x.setNoise(-1), -1);
+        }
+    }
+
+    /** "active devices whose bit .. is not the direction become inactive": also where noise makes the reads of a fork differ. */
+    private static void hiddenForkAtEachPosition() {
+        for (int position = 0; position <= 11; position++) {
+            int low = 1 << position;
+            for (int direction = 0; direction <= 1; direction++) {
+                RomSearchBus x = Due.busOf(0, 0, low & 15, low >> 4);
+                x.setNoise(2 * position + 1 - direction);
+                String told = "direction " + direction + " at the fork at bit " + position;
+                int rom = x.romCode(direction);
+                DUE.is(told + ": next()", x.next(), rom);
+                state(told, x, rom, -1, -1, 1);
+                DUE.is(told + ": slotsUsed()", x.slotsUsed(), 48);
+            }
         }
     }
 
